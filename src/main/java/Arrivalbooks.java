@@ -19,12 +19,12 @@ public final class Arrivalbooks {
     /** The longest pair, with what stands between two: "-2147483648=-2147483648, ". */
     private static final int MOST_SIGNS = 25 * MOST_PAIRS;
 
-    private final Book firstPlain = new Book(MOST_PAIRS);
-    private final Book secondPlain = new Book(MOST_PAIRS);
-    private final Book bounded = new Book(FIRST_BOUND);
-    private final Book queue = new Book(MOST_PAIRS);
+    private final Book firstPlain = new Book(MOST_PAIRS, false);
+    private final Book secondPlain = new Book(MOST_PAIRS, false);
+    private final Book bounded = new Book(FIRST_BOUND, true);
+    private final Book queue = new Book(MOST_PAIRS, false);
     /** Made once, and used again by each errors(): all calls of a run share one room. */
-    private final Book spare = new Book(MOST_PAIRS);
+    private final Book spare = new Book(MOST_PAIRS, false);
     private final Cursor firstCursor = new Cursor();
     private final Cursor secondCursor = new Cursor();
     private final Cursor thirdCursor = new Cursor();
@@ -49,7 +49,7 @@ public final class Arrivalbooks {
     public boolean put(int book, int key, int value)
             throws IndexOutOfBoundsException, IllegalArgumentException, IllegalStateException {
         Book target = bookChangedByHand(book);
-        requireRoomForKey(target, isPlain(book), key);
+        requireRoomForKey(target, key);
         closeCursors(book, NONE);
         return target.store(key, value);
     }
@@ -57,7 +57,7 @@ public final class Arrivalbooks {
     public int putNew(int book, int key, int value)
             throws IndexOutOfBoundsException, IllegalArgumentException, IllegalStateException {
         Book target = plainBook(book);
-        requireRoomForKey(target, true, key);
+        requireRoomForKey(target, key);
         closeCursors(book, NONE);
         int place = target.find(key);
         if (place == NONE) {
@@ -70,7 +70,7 @@ public final class Arrivalbooks {
     public int add(int book, int key, int number)
             throws IndexOutOfBoundsException, IllegalArgumentException, IllegalStateException {
         Book target = plainBook(book);
-        requireRoomForKey(target, true, key);
+        requireRoomForKey(target, key);
         closeCursors(book, NONE);
         int place = target.find(key);
         int value = place == NONE ? number : target.valueOn(place) + number;
@@ -110,8 +110,11 @@ public final class Arrivalbooks {
         Book target = bookChangedByHand(book);
         closeCursors(book, NONE);
         int place = target.find(key);
+        if (place == NONE) {
+            return false;
+        }
         target.give(place, value);
-        return place != NONE;
+        return true;
     }
 
     public int remove(int book, int key)
@@ -146,7 +149,7 @@ public final class Arrivalbooks {
             throw new IllegalArgumentException("no such number of pairs to put");
         }
         // The document refuses by the most that a call may put, not by what this call puts.
-        requireRoom(target, isPlain(book), MOST_FILLED);
+        requireRoom(target, MOST_FILLED);
         closeCursors(book, NONE);
         int key = from;
         for (int done = 0; done < many; done++) {
@@ -161,7 +164,7 @@ public final class Arrivalbooks {
         Book source = bookOfNumber(book);
         Book target = bookChangedByHand(other);
         requireTwoBooks(book, other);
-        requireRoom(target, isPlain(other), source.countMissingIn(target));
+        requireRoom(target, source.countMissingIn(target));
         closeCursors(other, NONE);
         target.storeAllOf(source);
         return target.count;
@@ -189,7 +192,7 @@ public final class Arrivalbooks {
     // tells how often it was offered since it came, 1 as it comes
 
     public boolean offer(int number) throws IllegalStateException {
-        requireRoomForKey(queue, true, number);
+        requireRoomForKey(queue, number);
         closeCursors(QUEUE, NONE);
         int place = queue.find(number);
         queue.store(number, place == NONE ? 1 : queue.valueOn(place) + 1);
@@ -439,14 +442,10 @@ public final class Arrivalbooks {
 
     private Book plainBook(int book) throws IndexOutOfBoundsException, IllegalArgumentException {
         Book found = bookOfNumber(book);
-        if (!isPlain(book)) {
+        if (book == BOUNDED || book == QUEUE) {
             throw new IllegalArgumentException("not a plain book");
         }
         return found;
-    }
-
-    private boolean isPlain(int book) {
-        return book == 0 || book == 1;
     }
 
     private void requireTwoBooks(int book, int other) throws IllegalArgumentException {
@@ -455,15 +454,12 @@ public final class Arrivalbooks {
         }
     }
 
-    private void requireRoomForKey(Book target, boolean isLimited, int key)
-            throws IllegalStateException {
-        requireRoom(target, isLimited, target.find(key) == NONE ? 1 : 0);
+    private void requireRoomForKey(Book target, int key) throws IllegalStateException {
+        requireRoom(target, target.find(key) == NONE ? 1 : 0);
     }
 
-    /** The bounded book is not limited: it lets its first pair go instead of refusing one. */
-    private void requireRoom(Book target, boolean isLimited, int coming)
-            throws IllegalStateException {
-        if (isLimited && target.count + coming > MOST_PAIRS) {
+    private void requireRoom(Book target, int coming) throws IllegalStateException {
+        if (!target.letsGo && target.count + coming > target.bound) {
             throw new IllegalStateException("the book is full");
         }
     }
@@ -518,16 +514,19 @@ public final class Arrivalbooks {
         }
     }
 
-    /** Pairs in the order in which their keys came; behind its bound it lets the first one go. */
+    /** Pairs in the order in which their keys came. */
     private static final class Book {
         private final int[] keys = new int[MOST_PAIRS];
         private final int[] values = new int[MOST_PAIRS];
         final Arrivals arrivals = new Arrivals();
-        int count;
+        /** Whether it lets its first pair go behind its bound, where others refuse the new one. */
+        final boolean letsGo;
         int bound;
+        int count;
 
-        Book(int bound) {
+        Book(int bound, boolean letsGo) {
             this.bound = bound;
+            this.letsGo = letsGo;
         }
 
         boolean reaches(int place) {
@@ -575,7 +574,7 @@ public final class Arrivalbooks {
             values[count] = value;
             count++;
             arrivals.cameIn(key);
-            if (count > bound) {
+            if (letsGo && count > bound) {
                 leave(0);
             }
         }

@@ -34,6 +34,7 @@ public final class ClosingTest {
         for (Row row : ROWS) {
             check(row);
         }
+        refusalsCloseNone();
         oneCursorStaysOpen();
         throwingCursorCallsCloseNone();
         Expect.finish("ClosingTest");
@@ -119,39 +120,6 @@ public final class ClosingTest {
         row("copy(4, 0)", NO_BOOK, x -> x.copy(4, 0));
         row("clear(3)", NO_BOOK, x -> x.clear(3));
         row("toEnd(9)", NO_BOOK, x -> x.toEnd(9));
-        row("put of a pair too many", NO_BOOK, x -> {
-            fillAndOpen(x);
-            return x.put(0, 500, 1);
-        });
-        row("putNew of a pair too many", NO_BOOK, x -> {
-            fillAndOpen(x);
-            return x.putNew(0, 500, 1);
-        });
-        row("add of a pair too many", NO_BOOK, x -> {
-            fillAndOpen(x);
-            return x.add(0, 500, 1);
-        });
-        row("fill of a book too full", NO_BOOK, x -> {
-            fillAndOpen(x);
-            return x.fill(0, 1, 1, 0);
-        });
-        row("pour of pairs too many", NO_BOOK, x -> {
-            fillAndOpen(x);
-            return x.pour(1, 0);
-        });
-        row("offer of a number too many", NO_BOOK, x -> {
-            for (int number = 1; number <= 200; number++) {
-                x.offer(number);
-            }
-            reopen(x, 3);
-            return x.offer(500);
-        });
-        row("poll of an empty queue", NO_BOOK, x -> {
-            x.poll();
-            x.poll();
-            reopen(x, 3);
-            return x.poll();
-        });
     }
 
     private static void rowsThatAsk() {
@@ -175,25 +143,6 @@ public final class ClosingTest {
         row("errors()", NO_BOOK, Arrivalbooks::errors);
     }
 
-    private static void fillAndOpen(Arrivalbooks x) {
-        for (int key = 1; key <= 200; key++) {
-            x.put(0, key, 0);
-        }
-        x.put(1, 500, 1);
-        reopen(x, 0);
-        reopen(x, 1);
-    }
-
-    /** Opens the cursors that a preparing call has closed, where the check wants them. */
-    private static void reopen(Arrivalbooks x, int book) {
-        for (int cursor = 0; cursor < 3; cursor++) {
-            if (x.bookOf(cursor) == NO_BOOK) {
-                x.open(cursor, book, Arrivalbooks.KEYS);
-                return;
-            }
-        }
-    }
-
     private static Arrivalbooks withPairsInAllBooks() {
         Arrivalbooks x = new Arrivalbooks();
         for (int book = 0; book < 3; book++) {
@@ -215,21 +164,12 @@ public final class ClosingTest {
             for (int cursor = 0; cursor < 3; cursor++) {
                 int book = cursor < left ? cursor : cursor + 1;
                 int due = book == row.closed ? NO_BOOK : book;
-                if (row.closed != NO_BOOK || !hasPrepared(row)) {
-                    Expect.due(row.call + ": the cursor of book " + book, x.bookOf(cursor), due);
-                } else {
-                    Expect.due(row.call + ": a cursor is open", x.bookOf(cursor) != NO_BOOK, true);
-                }
+                Expect.due(row.call + ": the cursor of book " + book, x.bookOf(cursor), due);
             }
         }
         if (row.closed != NO_BOOK) {
             checkAllOfOneBook(row);
         }
-    }
-
-    /** Such a row opens cursors itself, so that only whether they are open can be told. */
-    private static boolean hasPrepared(Row row) {
-        return row.call.contains(" too ") || row.call.contains("empty");
     }
 
     private static void checkAllOfOneBook(Row row) {
@@ -241,6 +181,31 @@ public final class ClosingTest {
         for (int cursor = 0; cursor < 3; cursor++) {
             Expect.due(row.call + ": cursor " + cursor, x.bookOf(cursor), NO_BOOK);
         }
+    }
+
+    /** Of books that are full, and of a queue that is full or empty. */
+    private static void refusalsCloseNone() {
+        Class<?> full = IllegalStateException.class;
+        Arrivalbooks x = new Arrivalbooks();
+        x.open(2, 3, Arrivalbooks.KEYS);
+        Expect.dueThrow(x, "poll() of an empty queue", java.util.NoSuchElementException.class,
+                x::poll);
+        Expect.fillUpTo(x, 0, 200);
+        x.put(1, 500, 1);
+        x.open(0, 0, Arrivalbooks.KEYS);
+        x.open(1, 1, Arrivalbooks.KEYS);
+        Expect.dueThrow(x, "put(0, 500, 1)", full, () -> x.put(0, 500, 1));
+        Expect.dueThrow(x, "putNew(0, 500, 1)", full, () -> x.putNew(0, 500, 1));
+        Expect.dueThrow(x, "add(0, 500, 1)", full, () -> x.add(0, 500, 1));
+        Expect.dueThrow(x, "fill(0, 1, 1, 0)", full, () -> x.fill(0, 1, 1, 0));
+        Expect.dueThrow(x, "pour(1, 0)", full, () -> x.pour(1, 0));
+        Arrivalbooks y = new Arrivalbooks();
+        for (int number = 0; number < 200; number++) {
+            y.offer(number);
+        }
+        y.open(0, 3, Arrivalbooks.KEYS);
+        Expect.dueThrow(y, "offer(500)", full, () -> y.offer(500));
+        Expect.due("the cursor of the queue", y.bookOf(0), 3);
     }
 
     private static void oneCursorStaysOpen() {
