@@ -384,6 +384,9 @@ public final class Arrivalbooks {
     }
 
     public float fullness() {
+        if (bounded.bound == 0) {
+            return 0.0f;
+        }
         return (float) bounded.count / (float) bounded.bound;
     }
 
@@ -411,7 +414,7 @@ public final class Arrivalbooks {
     private boolean isEqualInOppositeOrder(Book book) {
         spare.empty();
         for (int place = book.count - 1; place >= 0; place--) {
-            spare.store(book.keyOn(place), book.valueOn(place));
+            spare.enter(book.keyOn(place), book.valueOn(place));
         }
         return spare.hasPairsOf(book) && spare.mixed() == book.mixed();
     }

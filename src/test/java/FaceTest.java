@@ -27,7 +27,8 @@ public final class FaceTest {
         Expect.due("its constructor", SUBJECT.getDeclaredConstructors()[0].toString(),
                 "public Arrivalbooks()");
         Expect.due("its public methods", publicMethods(), documentedMethods());
-        Expect.due("its public constants", publicFields(), Set.of("NONE", "KEYS", "VALUES", "PAIRS"));
+        Expect.due("its public constants", publicFields(),
+                Set.of("NONE", "KEYS", "VALUES", "PAIRS"));
         constants();
         for (Class<?> type : allClasses()) {
             rulesOfOneClass(type);

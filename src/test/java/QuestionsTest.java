@@ -116,9 +116,16 @@ public final class QuestionsTest {
         x.put(2, 2, 21);
         Expect.due("32 another value", x.areAlike(0, 2), false);
         x.put(2, 2, 20);
+        x.put(2, 1, 11);
+        Expect.due("32 another value at the first place", x.areAlike(0, 2), false);
+        x.put(2, 1, 10);
         x.put(2, 3, 30);
         Expect.due("32 one more", x.areAlike(0, 2), false);
         Expect.due("32 one less", x.areAlike(2, 0), false);
+        Expect.due("32 one empty", x.areAlike(0, 3), false);
+        x.clear(2);
+        Expect.putAll(x, 2, 4, 10, 2, 20);
+        Expect.due("32 another key at the first place", x.areAlike(0, 2), false);
     }
 
     private static void promise33Hash() {
