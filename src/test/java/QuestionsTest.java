@@ -253,6 +253,12 @@ public final class QuestionsTest {
         Expect.due("40 full", x.fullness(), 1.0f);
         x.clear(2);
         Expect.due("40 cleared", x.fullness(), 0.0f);
+        x.rebind(1);
+        x.put(2, 1, 1);
+        Expect.due("40 1 of 1", x.fullness(), 1.0f);
+        x.rebind(40);
+        x.fill(2, 0, 1, 7);
+        Expect.due("40 7 of 40", x.fullness(), 7.0f / 40.0f);
     }
 
     private static void promise41Errors() {
