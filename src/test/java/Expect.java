@@ -4,17 +4,27 @@ final class Expect {
         Object made();
     }
 
+    private static final int MOST_PRINTED = 60;
+
     private static int checked = 0;
     private static int wrong = 0;
+    private static String sentence = "";
 
     private Expect() {
+    }
+
+    /** What is due from here on is due by these words of the document. */
+    static void under(String words) {
+        sentence = words + ": ";
     }
 
     static void due(String call, Object got, Object want) {
         checked++;
         if (!want.equals(got)) {
             wrong++;
-            System.out.println(call + " answered " + got + ", due is " + want);
+            if (wrong <= MOST_PRINTED) {
+                System.out.println(sentence + call + " answered " + got + ", due is " + want);
+            }
         }
     }
 
