@@ -49,6 +49,10 @@ final class TermsBoundaries {
         }
         // 311 is once round, and 111 more.
         queue.due("keyAt(3, 0)", 111);
+        Run inAndOut = new Run();
+        for (int round = 0; round < 256; round++) {
+            inAndOut.due("offer(5)", true).due("poll()", 5);
+        }
         Run books = new Run().filled(0, 200).made("rebind(40)");
         for (int call = 0; call < 506; call++) {
             books.due(call % 2 == 0 ? "pour(0, 2)" : "copy(0, 1)", call % 2 == 0 ? 40 : 200);

@@ -17,6 +17,10 @@ public final class TheoremTest {
         Expect.due("41 a key that never came, in another book", x.errors(), 2);
 
         makeBooks();
+        keys("queue")[0] = 9;
+        Expect.due("41 a key that never came, at the first place", x.errors(), 1);
+
+        makeBooks();
         setCount("queue", 2);
         Expect.due("41 a key that was not removed is missing", x.errors(), 1);
 
